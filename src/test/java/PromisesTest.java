@@ -1089,6 +1089,12 @@ public final class PromisesTest {
         OneFiddle like = tunes("ab", "b", "a", "c");
         Check.due("32 equal ones", like.tree(), 3);
         Check.row("32 the least one in it", like, 2);
+        OneFiddle last = tunes("b", "ca", "c", "cc");
+        last.tree();
+        Check.row("32 the least comer, the least in it", last, 2);
+        OneFiddle first = tunes("c", "aab", "aac", "a", "bc");
+        first.tree();
+        Check.row("32 from TUNE 0 on, the comer first", first, 2);
         OneFiddle one = tunes("abc");
         Check.due("32 one", one.tree(), 0);
         Check.row("32 one", one, 0);
