@@ -2,22 +2,33 @@ import java.util.Arrays;
 import java.util.NoSuchElementException;
 
 /** What the tests share: telling texts to an object, and counting answers that are not due. */
-final class Check {
+class Check {
     interface Asked {
         long answer();
     }
 
     private static int asked = 0;
     private static int wrong = 0;
+    /** Printed ahead of what is wrong: the test that asks. */
+    private static String test = "";
 
-    private Check() {
+    static int asked() {
+        return asked;
+    }
+
+    static void begin(String name) {
+        test = name.isEmpty() ? "" : name + ": ";
+    }
+
+    static void wrong(String why) {
+        wrong++;
+        System.out.println(test + why);
     }
 
     static void due(String what, long got, long want) {
         asked++;
         if (got != want) {
-            wrong++;
-            System.out.println(what + ": answered " + got + ", due is " + want);
+            wrong(what + ": answered " + got + ", due is " + want);
         }
     }
 
@@ -35,8 +46,7 @@ final class Check {
         } catch (RuntimeException e) {
             got = "threw " + e;
         }
-        wrong++;
-        System.out.println(what + ": " + got + ", due is NoSuchElementException");
+        wrong(what + ": " + got + ", due is NoSuchElementException");
     }
 
     /** The whole ROW, and that there is nothing behind it. */
@@ -44,8 +54,7 @@ final class Check {
         long[] got = rowOf(x);
         asked++;
         if (!Arrays.equals(got, want)) {
-            wrong++;
-            System.out.println(what + ": ROW " + Arrays.toString(got) + ", due is " + Arrays.toString(want));
+            wrong(what + ": ROW " + Arrays.toString(got) + ", due is " + Arrays.toString(want));
         }
         throwsNone(what + ": row(" + want.length + ")", () -> x.row(want.length));
         throwsNone(what + ": row(-1)", () -> x.row(-1));
