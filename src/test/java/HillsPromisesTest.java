@@ -297,6 +297,8 @@ public final class HillsPromisesTest extends Check {
         hills(x, "v7");
         due("the next one's FOOD", x.village(2, 0), 7);
         due("no ROAD to it", x.far(0, 2), -2);
+        due("the ROAD is as it was then, too", x.far(0, 1), 9);
+        due("ROADS then", x.count(1), 1);
         Twins.refusesText("hills", -10, "v1;rab5;v", y -> y.hills());
         Twins.refusesText("hills", -77, "rab12;" + "rab1;".repeat(13) + "rab12;", y -> y.hills());
     }
@@ -470,11 +472,11 @@ public final class HillsPromisesTest extends Check {
     }
 
     @Says("-1 - p: as hills() (40 signs).")
-    private static void p06NothingIsLeftOfARefusedText() {
-        String[] ill = {"-", "--(", "1-", "1*", "1/", "1<", "(((1<2", "((((", "1=2=3", "9-(8*(7", "1+2*-", "5)", "99+98+97"};
-        String[] well = {"5", "2*3+4", "1<2", "(1<2)+(3<4)", "((((6))))", "-2+9", "m-t"};
-        int[] want = {5, 10, 1, 2, 6, 7, 5};
-        for (String text : ill) {
+    private static void p06NothingIsLeftOfTheTextAhead() {
+        String[] ahead = {"-", "--(", "1----2", "2*3+4-5*(6-7)*-8", "((((1<2))))", "1-", "1*", "1/", "1<", "(((1<2", "((((", "1=2=3", "9-(8*(7", "1+2*-", "5)", "99+98+97"};
+        String[] well = {"5", "2*3+4", "1<2", "(1<2)+(3<4)", "((((6))))", "-2+9", "m-t", "--5", "-5", ""};
+        int[] want = {5, 10, 1, 2, 6, 7, 5, 5, 0, 8};
+        for (String text : ahead) {
             for (int k = 0; k < well.length; k++) {
                 OneFiddle x = ordinary();
                 rule(x, text);

@@ -198,6 +198,11 @@ public final class RoundsPromisesTest extends Check {
         row("from NIGHT 2, moonless in 3", x, 1, 1, 2, 3);
         x.comes(2);
         row("to c", x, 1, 1, 2);
+        OneFiddle late = with("v0;v0;v0;rab5;rbc20", "");
+        late.stay(1);
+        late.set(1, 2);
+        due("20 MILES in nights 1 and 3 alone", late.comes(2), 3);
+        row("he may wait at a or at b", late, 0, 1, 2);
     }
 
     @Says("(0: he is there)")
@@ -341,6 +346,22 @@ public final class RoundsPromisesTest extends Check {
         due("LENT in 3", x.round(3), 0);
         due("LENT in 3, four", x.round(4), 1);
         row("LENT in 3, he is there by then", x, 0, 1, 2, 2);
+    }
+
+    @Says("The most FEASTS that he can play in the next n NIGHTS (0 .. 10): how many;")
+    private static void p20BehindOtherRounds() {
+        OneFiddle x = ordinary();
+        for (int k = 0; k < 3; k++) {
+            due("all of none", x.all(0), 0);
+            due("round behind it", x.round(1), 1);
+            row("round behind it", x, 1);
+            due("all of none", x.all(0), 0);
+            due("richest behind it", x.richest(1), 9);
+            due("all of one", x.all(2), 2);
+            due("round behind it", x.round(0), 0);
+            due("second behind it", x.second(2, 2), 0);
+            due("clash behind it", x.clash(), 6);
+        }
     }
 
     @Says("NONE: another n, no VILLAGES.")

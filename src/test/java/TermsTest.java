@@ -55,6 +55,79 @@ public final class TermsTest extends Check {
         due("the ninth", hills(eight, "v0"), 1);
     }
 
+    /** 9 VILLAGES, 24 ROADS, 8 FEASTS, 8 TUNES of 12 notes, 12 that can be undone, both kept. */
+    private static OneFiddle full() {
+        OneFiddle x = with(NINE, "b0-0$9*9;c1-1$9*9;d2-2$9*9;e3-3$9*9;f4-4$9*9;g5-5$9*9;h6-6$9*9;i7-7$9*9");
+        hills(x, TWELVE);
+        hills(x, TWELVE);
+        feasts(x, "");
+        for (int k = 0; k < 7; k++) {
+            due("TUNE " + k, tune(x, ("" + (char) ('a' + k)).repeat(12), k), k);
+        }
+        due("TUNE 7", tune(x, "ab".repeat(6), 8), 7);
+        for (int k = 0; k < 12; k++) {
+            x.move(7, k % 2 == 0 ? 1 : -1);
+        }
+        x.keep(0);
+        x.keep(1);
+        tell(x, "v".repeat(80));
+        return x;
+    }
+
+    @Says("(at most 9; written a .. i)")
+    private static void t1AllThatThereIsRoomFor() {
+        OneFiddle x = full();
+        int[] counts = {9, 24, 8, 0, 0, 0, 0, 4, 0, 0, 0, 8, 12, 0, 80};
+        for (int what = 0; what < counts.length; what++) {
+            due("count(" + what + ")", x.count(what), counts[what]);
+        }
+        due("the last VILLAGE", x.village(8, 1), 128);
+        due("the last FEAST", x.feast(7, 0), 8);
+        due("reach", x.reach(), 511);
+        due("far", x.far(8, 7), 2);
+        row("far", x, 8, 0, 7);
+        due("comes", x.comes(8), 1);
+        due("round", x.round(10), 8);
+        row("round", x, 1, 2, 3, 4, 5, 6, 7, 8, 0, 0);
+        due("richest", x.richest(10), 72);
+        row("richest", x, 1, 2, 3, 4, 5, 6, 7, 8, 0, 0);
+        due("all", x.all(255), 8);
+        due("clash", x.clash(), -2);
+        due("worth", x.worth(7, 10), 9);
+        due("longer", x.longer(10), -2);
+        due("learns", x.learns(10), 72);
+        row("learns", x, 1, 8);
+        due("second", x.second(8, 6), 0);
+        due("sheet", x.sheet(2, 8, 99, 0), 792);
+    }
+
+    @Says("(at most 9; written a .. i)")
+    private static void t1CallsWithAllThatThereIsRoomFor() {
+        OneFiddle x = full();
+        due("differ", x.differ(7, 0), 6);
+        due("whence", x.whence(), 6 * 12 + 6);
+        row("whence", x, 0, 0, 0, 0, 0, 0, 0);
+        due("tree", x.tree(), 2 * 6 + 5 * 12);
+        row("tree", x, 6);
+        due("sign", x.sign(0), -1);
+        due("got", got(x, "g".repeat(12)), 64);
+        due("bids", x.bids(8, 7, 9), 3);
+        due("years", x.years(1, 60) >= 0, true);
+        due("a VILLAGE more", hills(x, "v0"), -1);
+        due("a ROAD more", hills(x, "rab1"), -1);
+        due("a FEAST more", feasts(x, "a0-0$0*1"), -1);
+        due("a TUNE more", tune(x, "a", 0), -100);
+        due("what can be undone", x.count(12), 12);
+        due("a season", season(x, "gb;gc;gd;ge;gf;gg;gh;gi;m;z60"), 10);
+        // TIRED 9, 18, 27, 36, 45, 53: the last two BIDS are halved
+        row("a season", x, 0, 8, 6 * 9 + 2 * 4);
+        due("12 still", x.count(12), 12);
+        due("undone", x.undo(), 11);
+        due("none was played", x.count(9), 0);
+        due("again", x.again(1), true);
+        due("none can be undone", x.count(12), 0);
+    }
+
     @Says("written a .. i)")
     private static void t1LettersAToI() {
         OneFiddle x = with(NINE, "");
@@ -466,6 +539,9 @@ public final class TermsTest extends Check {
         makes("(1<2)<3", 1);
         makes("5>(2>3)", 1);
         makes("(1<2)+(3>2)+(4=4)", 3);
+        makes("((((1<2))))", 1);
+        makes("((((1<2)+5=6)*3>2)<2)=1", 1);
+        fails("((((1<2<3))))", 7);
         for (String first : new String[] {"<", ">", "="}) {
             for (String then : new String[] {"<", ">", "="}) {
                 fails("1" + first + "2" + then + "3", 3);

@@ -172,6 +172,7 @@ public final class TunesPromisesTest extends Check {
         due("one", tunes("abc").whence(), 0);
         due("two", tunes("abc", "g").whence(), 3);
         due("likes", tunes("abc", "abc", "abc").whence(), 0);
+        due("as unlike as can be", tunes("aaaaaaaaaaaa", "bbbbbbbbbbbb").whence(), 12);
         due("by those ahead alone", tunes("a", "gggg", "ggg").whence(), 4 + 1);
         due("by those ahead alone, turned", tunes("a", "ggg", "gggg").whence(), 3 + 1);
         due("eight", tunes("a", "ab", "abc", "abcd", "abcde", "abcdef", "abcdefg", "abcdefga").whence(), 7);
@@ -220,6 +221,8 @@ public final class TunesPromisesTest extends Check {
         tree(4, 2, "a", "gggg", "ggg");
         tree(3, 2, "aaaa", "abbb", "aaab", "aabb");
         tree(0, 2, "abc", "abc");
+        tree(12, 2, "aaaaaaaaaaaa", "bbbbbbbbbbbb");
+        tree(24, 2, "aaaaaaaaaaaa", "bbbbbbbbbbbb", "cccccccccccc");
         tree(7, 2, "a", "ab", "abc", "abcd", "abcde", "abcdef", "abcdefg", "abcdefga");
     }
 
@@ -233,6 +236,14 @@ public final class TunesPromisesTest extends Check {
         // c comes in by b, ca by c, then cc by ca, which is less than c
         tree(3, 2, "b", "ca", "c", "cc");
         tree(3, 2, "a", "aa", "aaa", "ab");
+        // c before b, b by c, then bcc by c, which is less than b
+        tree(5, 3, "cab", "bcc", "c", "b");
+        // c before b, b by c, then cb by c, which is less than b
+        tree(4, 3, "bac", "c", "b", "cb");
+        // bab before b, a by bab before b by bbc, b by a, the other b by it
+        tree(5, 2, "bbc", "bab", "a", "b", "b");
+        // ca, b by c, b by b, cc by c before ca, at last aac by c, which is less than ca and cc
+        tree(5, 4, "c", "ca", "aac", "b", "b", "cc");
     }
 
     @Says("-2: there are no TUNES.")
@@ -277,6 +288,8 @@ public final class TunesPromisesTest extends Check {
         row("one", x, 1);
         got(x, "gggggggggggg");
         row("twelve", x, 12);
+        due("all of twelve", got(x, "efefefefefef"), 7);
+        row("all of twelve", x, 12);
         got(x, "g");
         row("two", x, 2);
     }
