@@ -639,7 +639,7 @@ public final class OneFiddle {
 
     /** richest() of n NIGHTS, if a FEAST's last night were one more. */
     private int gainOfOneNight(int feast, int n) {
-        if (story.wasPlayed(feast) || story.to[feast] >= LAST_NIGHT) {
+        if (!fairs.has(feast) || story.wasPlayed(feast) || story.to[feast] >= LAST_NIGHT) {
             return 0;
         }
         int night = story.to[feast] + 1;
@@ -872,7 +872,7 @@ public final class OneFiddle {
 
         private boolean readVillage(Script text) {
             int amount = text.takeNumber(1);
-            if (amount < 0 || villagesTold >= MOST_VILLAGES) {
+            if (amount < 0 || villagesTold < 0 || villagesTold >= MOST_VILLAGES) {
                 return false;
             }
             food[villagesTold] = amount;
@@ -893,7 +893,7 @@ public final class OneFiddle {
             if (length == 0) {
                 text.giveBack();
             }
-            if (length <= 0 || roadsTold >= MOST_ROADS) {
+            if (length <= 0 || roadsTold < 0 || roadsTold >= MOST_ROADS) {
                 return false;
             }
             one[roadsTold] = first;

@@ -31,6 +31,8 @@ public final class FaceTest {
     public static void main(String[] args) throws Exception {
         face();
         source();
+        rooms();
+        readme();
         anyCalls();
         Check.end("FaceTest");
     }
@@ -57,8 +59,11 @@ public final class FaceTest {
                 Check.due(m + " tells what it throws", Arrays.equals(m.getExceptionTypes(), thrown), true);
             } else {
                 rest.add(m);
-                Check.due(m + " bears no public name", names.contains(m.getName()), false);
             }
+        }
+        // behind the loop, for the methods come in any order
+        for (Member m : rest) {
+            Check.due(m + " bears no public name", m instanceof Method && names.contains(m.getName()), false);
         }
         Check.due("the methods " + got, got.equals(due), true);
         for (Member m : rest) {
@@ -99,6 +104,41 @@ public final class FaceTest {
                 begun = 0;
             }
         }
+    }
+
+    /** Nothing is made but by constructors and fields, and the exceptions: rule 12, and the one room of all calls. */
+    private static void rooms() throws IOException {
+        boolean constructs = false;
+        for (String line : Files.readAllLines(Path.of("src/main/java/OneFiddle.java"))) {
+            if (line.matches(" {4,8}(public )?[A-Z]\\w*\\(.*\\) \\{")) {
+                constructs = true;
+            } else if (line.matches(" {4,8}\\}")) {
+                constructs = false;
+            }
+            String code = line.replaceFirst("^ *(/?\\*|//).*$", "");
+            if (code.matches(".*\\bnew\\b.*")) {
+                boolean may = constructs || code.matches(" +private final \\S+ \\w+ = new .*;")
+                    || code.equals("            throw new NoSuchElementException();");
+                Check.due(line + " makes something", may, true);
+            }
+            if (code.startsWith("import")) {
+                Check.due(line, code.equals("import java.util.NoSuchElementException;"), true);
+            }
+            String rest = code.replaceAll("\\bMath\\.(min|max)\\(|\\bInteger\\.bitCount\\(", "");
+            Check.due(line + " uses another library", rest.matches(".*\\b(Math|Integer|Long|System|Arrays|String)\\..*"), false);
+        }
+    }
+
+    /** What README.md shows. */
+    private static void readme() {
+        OneFiddle x = new OneFiddle();
+        Check.due("README: sign()", x.sign(0x76333b76), 4);
+        Check.due("README: sign()", x.sign(0x363b7261), 8);
+        Check.due("README: sign()", x.sign(0x62313000), 12);
+        Check.due("README: end(11)", x.end(11), true);
+        Check.due("README: hills()", x.hills(), 3);
+        Check.due("README: night(1)", x.night(1), 0);
+        Check.due("README: row(1)", x.row(1), 10);
     }
 
     private static void anyCalls() throws IllegalAccessException {
